@@ -523,7 +523,6 @@ public final class AddressClaimBus {
             message.size = size;
             message.toAll = toAll;
             open = true;
-            held = false;
             expected = 1;
             asked = 0;
             if (toAll) {
@@ -826,14 +825,14 @@ public final class AddressClaimBus {
             }
         }
 
-        /** A room that is not open, behind the session that is open, so that their order stays. */
+        /** The second room, freed of a session that began earlier, so that the order of the two stays. */
         private Incoming roomForIncoming() {
             if (incoming[1].open) {
                 Incoming free = incoming[0];
                 incoming[0] = incoming[1];
                 incoming[1] = free;
             }
-            return incoming[0].open ? incoming[1] : incoming[0];
+            return incoming[1];
         }
 
         private void abortIncoming(int source, int group) {

@@ -1,5 +1,6 @@
 /** Counts the answers that are not the ones that are due, as the tests under ../shared/tests do. */
 final class Check {
+    private static final int MOST_PRINTED = 200;
     private static int wrong;
     private static int checked;
     private static String where = "";
@@ -16,6 +17,8 @@ final class Check {
         checked++;
         if (got != want) {
             wrong++;
+        }
+        if (got != want && wrong <= MOST_PRINTED) {
             System.out.println(where + ": " + call + " answered " + got + ", due is " + want);
         }
     }

@@ -6,6 +6,7 @@ public final class ClaimTest {
         namesHaveNoSign();
         greaterNameTakesSpareAddress();
         spareAddressNotedByAnother();
+        spareAddressNotedForEachFunction();
         noSpareAddressLeft();
         unableOneDefendsNothing();
         requestBeginsNoTime();
@@ -112,6 +113,20 @@ public final class ClaimTest {
         bus.deliver(false);
         Check.due("none is left", bus.address(0), 254);
         Check.due("state(0)", bus.state(0), 3);
+    }
+
+    private static void spareAddressNotedForEachFunction() {
+        for (int f = 0; f < 3; f++) {
+            Check.of("128 noted for function " + f);
+            AddressClaimBus bus = new AddressClaimBus();
+            bus.start(4, -1L, 20);
+            bus.lose();
+            bus.start(f, 1L, 128);
+            bus.deliver(false);
+            bus.start(3, 2L, 20);
+            bus.deliver(false);
+            Check.due("address(4)", bus.address(4), 129);
+        }
     }
 
     private static void noSpareAddressLeft() {
