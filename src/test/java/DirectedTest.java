@@ -2,21 +2,12 @@
 public final class DirectedTest {
     public static void main(String[] args) {
         wholeMessage();
-        packetsAtTheEdges();
         holding();
-        heldPacketsHaveNoEffect();
         busyInTheMiddle();
         gapAsksAgain();
-        gapsGiveUp();
-        lateGivesUp();
-        timerAfterPacket();
         repeatedFramesHaveNoEffect();
-        thirdSessionRefused();
         openAgainBeginsAnew();
         abortEndsBoth();
-        otherGroupHasNoEffect();
-        grantBeyondTheLast();
-        frameToNobody();
         twoWithOneAddress();
         toAllAndDirectedFromOneSource();
         Check.end();
@@ -41,22 +32,6 @@ public final class DirectedTest {
         Check.due("outgoing(0)", bus.outgoing(0), 10);
         Check.due("waiting()", bus.waiting(), 0);
         Check.due("no timer is left", bus.tick(2000), 0);
-    }
-
-    private static void packetsAtTheEdges() {
-        Check.of("how many packets");
-        int[][] due = {{9, 2}, {14, 2}, {15, 3}, {21, 3}, {22, 4}, {42, 6}, {43, 7}, {49, 7}};
-        for (int[] row : due) {
-            AddressClaimBus bus = Frames.holding(2);
-            bus.send(0, 11, 7, row[0], -1L);
-            Check.due("size " + row[0], bus.data(), Frames.open(row[0], row[1], 7));
-            bus.deliver(false);
-            Check.due("window", bus.data(), Frames.grant(Math.min(3, row[1]), 1, 7));
-            Frames.deliverAll(bus);
-            Check.due("outgoing(0)", bus.outgoing(0), 10);
-            Check.due("last byte", bus.byteOf(1, row[0] - 1), (255 + row[0] - 1) % 256);
-            Check.due("none behind it", bus.byteOf(1, row[0]), -1);
-        }
     }
 
     private static void holding() {
@@ -87,33 +62,6 @@ public final class DirectedTest {
         Check.due("tick(1)", bus.tick(1), 1);
         Check.due("outgoing(0)", bus.outgoing(0), 11);
         Frames.deliverThis(bus, Frames.control(11, 10), Frames.abort(3, 7));
-    }
-
-    private static void heldPacketsHaveNoEffect() {
-        Check.of("packets while held");
-        AddressClaimBus bus = Frames.holding(2);
-        bus.send(0, 11, 7, 20, 0L);
-        Frames.deliver(bus, 2);
-        bus.busy(1, true);
-        Frames.lose(bus, 2);
-        bus.deliver(true);
-        Check.due("the gap asks, and the busy one holds", bus.waiting(), 2);
-        bus.deliver(true);
-        Check.due("3 is not LAST any more", bus.waiting(), 2);
-        bus.lose();
-        Check.due("data()", bus.data(), Frames.grant(0, 1, 7));
-        bus = Frames.holding(2);
-        bus.send(0, 11, 7, 20, 0L);
-        Frames.deliver(bus, 2);
-        bus.deliver(true);
-        bus.busy(1, true);
-        Check.due("late, the busy one holds", bus.tick(750), 1);
-        bus.lose();
-        bus.deliver(false);
-        bus.deliver(false);
-        Check.due("the expected one is beyond LAST", bus.waiting(), 1);
-        Check.due("data()", bus.data(), Frames.grant(0, 2, 7));
-        Check.due("the timer runs on", bus.tick(500), 2);
     }
 
     private static void busyInTheMiddle() {
@@ -156,73 +104,6 @@ public final class DirectedTest {
         Check.due("outgoing(0)", bus.outgoing(0), 10);
     }
 
-    private static void gapsGiveUp() {
-        Check.of("the third gap");
-        AddressClaimBus bus = Frames.holding(2);
-        bus.send(0, 11, 7, 20, 0L);
-        Frames.deliver(bus, 2);
-        for (int i = 0; i < 2; i++) {
-            Frames.lose(bus, 2);
-            bus.deliver(false);
-            Frames.deliverThis(bus, Frames.control(10, 11), Frames.grant(3, 1, 7));
-        }
-        Frames.lose(bus, 2);
-        bus.deliver(false);
-        Check.due("incoming(1)", bus.incoming(1), 0);
-        Check.due("outgoing(0)", bus.outgoing(0), 2);
-        Frames.deliverThis(bus, Frames.control(10, 11), Frames.abort(5, 7));
-        Check.due("outgoing(0)", bus.outgoing(0), 25);
-        Check.due("no timer is left", bus.tick(2000), 0);
-        bus.send(0, 11, 7, 20, 0L);
-        Frames.deliver(bus, 2);
-        Frames.lose(bus, 2);
-        bus.deliver(false);
-        Check.due("a new session has not asked yet", bus.data(), Frames.grant(3, 1, 7));
-    }
-
-    private static void lateGivesUp() {
-        Check.of("three times late");
-        AddressClaimBus bus = Frames.holding(2);
-        bus.send(0, 11, 7, 20, 0L);
-        bus.deliver(false);
-        bus.lose();
-        bus.stop(0);
-        for (int i = 0; i < 2; i++) {
-            Check.due("tick(1249)", bus.tick(1249), 0);
-            Check.due("tick(1)", bus.tick(1), 1);
-            Frames.deliverThis(bus, Frames.control(10, 11), Frames.grant(3, 1, 7));
-        }
-        Check.due("tick(1249)", bus.tick(1249), 0);
-        Check.due("incoming(1)", bus.incoming(1), 1);
-        Check.due("tick(1)", bus.tick(1), 1);
-        Check.due("incoming(1)", bus.incoming(1), 0);
-        Check.due("identifier()", bus.identifier(), Frames.control(10, 11));
-        Check.due("data()", bus.data(), Frames.abort(3, 7));
-        Check.due("tick(2000)", bus.tick(2000), 0);
-    }
-
-    private static void timerAfterPacket() {
-        Check.of("timers of a directed session");
-        AddressClaimBus bus = Frames.holding(2);
-        bus.send(0, 11, 7, 20, 0L);
-        bus.tick(1000);
-        bus.deliver(false);
-        bus.tick(249);
-        bus.deliver(false);
-        Check.due("a grant sets the sender's timer to 1250 ms", bus.tick(1), 0);
-        bus.deliver(false);
-        Check.due("a packet sets 750 ms", bus.tick(749), 0);
-        Check.due("tick(1)", bus.tick(1), 1);
-        Check.due("waiting()", bus.waiting(), 3);
-        Frames.lose(bus, 3);
-        Check.due("the sender's", bus.tick(498), 0);
-        Check.due("the sender's", bus.tick(1), 1);
-        Check.due("outgoing(0)", bus.outgoing(0), 11);
-        Check.due("incoming(1)", bus.incoming(1), 1);
-        bus.deliver(false);
-        Check.due("its ABORT ends the other side", bus.incoming(1), 0);
-    }
-
     private static void repeatedFramesHaveNoEffect() {
         Check.of("frames that are delivered twice");
         AddressClaimBus bus = Frames.holding(2);
@@ -254,27 +135,6 @@ public final class DirectedTest {
         bus.deliver(false);
         Check.due("GRANT without a session", bus.waiting(), 0);
         Check.due("outgoing(0)", bus.outgoing(0), 10);
-    }
-
-    private static void thirdSessionRefused() {
-        Check.of("a third incoming session");
-        AddressClaimBus bus = Frames.holding(5);
-        bus.send(0, 11, 1, 9, 0L);
-        bus.deliver(false);
-        bus.lose();
-        bus.send(2, 11, 2, 9, 0L);
-        bus.deliver(false);
-        bus.lose();
-        bus.send(3, 11, 262143, 9, 0L);
-        bus.deliver(false);
-        Check.due("incoming(1)", bus.incoming(1), 2);
-        Frames.deliverThis(bus, Frames.control(13, 11), Frames.abort(2, 262143));
-        Check.due("outgoing(3)", bus.outgoing(3), 22);
-        bus.send(4, 255, 4, 9, 0L);
-        bus.deliver(false);
-        Check.due("to all, without a word", bus.waiting(), 0);
-        Check.due("incoming(1)", bus.incoming(1), 2);
-        Check.due("incoming(2)", bus.incoming(2), 1);
     }
 
     private static void openAgainBeginsAnew() {
@@ -321,91 +181,6 @@ public final class DirectedTest {
         Check.due("outgoing(1)", bus.outgoing(1), 23);
         Check.due("incoming(1)", bus.incoming(1), 0);
         Check.due("the other side's session stands", bus.incoming(0), 1);
-    }
-
-    private static void otherGroupHasNoEffect() {
-        Check.of("frames with another group or source");
-        AddressClaimBus bus = Frames.holding(3);
-        bus.send(0, 11, 5, 9, 0L);
-        bus.deliver(false);
-        bus.stop(0);
-        bus.start(0, 1L, 10);
-        bus.tick(250);
-        bus.deliver(false);
-        bus.send(0, 11, 6, 9, 0L);
-        Frames.deliverThis(bus, Frames.control(10, 11), Frames.grant(2, 1, 5));
-        Check.due("a GRANT of another group", bus.waiting(), 1);
-        bus.lose();
-        Check.due("function 1 asks for group 5", bus.tick(1000), 1);
-        Check.due("no timer was set by the GRANT", bus.tick(250), 1);
-        Check.due("outgoing(0)", bus.outgoing(0), 11);
-        bus.lose();
-        Frames.deliverThis(bus, Frames.control(11, 10), Frames.abort(3, 6));
-        Check.due("an ABORT of another group", bus.incoming(1), 1);
-        Check.due("function 1 asks again", bus.tick(1000), 1);
-        bus.send(0, 12, 5, 9, 0L);
-        Frames.deliverThis(bus, Frames.control(10, 11), Frames.grant(2, 1, 5));
-        Check.due("a GRANT of another source", bus.waiting(), 1);
-        bus.lose();
-        bus.tick(1249);
-        bus.send(0, 12, 5, 9, 0L);
-        Check.due("function 1 gives up, function 0 too", bus.tick(1), 2);
-        Frames.lose(bus, 2);
-        aborted(bus);
-    }
-
-    private static void aborted(AddressClaimBus bus) {
-        bus.send(0, 11, 5, 9, 0L);
-        bus.deliver(false);
-        bus.lose();
-        bus.stop(0);
-        Frames.lose(bus, 9);
-        bus.tick(1250);
-        bus.tick(1250);
-        Frames.lose(bus, 2);
-        bus.start(0, 1L, 10);
-        bus.lose();
-        bus.tick(1000);
-        bus.send(0, 12, 5, 9, 0L);
-        bus.lose();
-        bus.tick(250);
-        Frames.deliverThis(bus, Frames.control(10, 11), Frames.abort(3, 5));
-        Check.due("an ABORT of another source", bus.outgoing(0), 2);
-    }
-
-    private static void grantBeyondTheLast() {
-        Check.of("a GRANT for more packets than there are");
-        AddressClaimBus bus = Frames.holding(2);
-        bus.send(0, 11, 5, 49, 0L);
-        bus.deliver(false);
-        bus.stop(0);
-        bus.start(0, 1L, 10);
-        bus.tick(250);
-        bus.deliver(false);
-        bus.send(0, 11, 5, 9, 0L);
-        Check.due("the old GRANT is next", bus.data(), Frames.grant(3, 1, 5));
-        bus.deliver(false);
-        Check.due("OPEN and two packets", bus.waiting(), 3);
-        bus.deliver(true);
-        bus.deliver(false);
-        Check.due("the old session took packet 1", bus.incoming(1), 1);
-        Frames.deliverAll(bus);
-        Check.due("outgoing(0)", bus.outgoing(0), 10);
-        Check.due("message(1, 2)", bus.message(1, 2), 9);
-    }
-
-    private static void frameToNobody() {
-        Check.of("frames to an address that nobody holds");
-        AddressClaimBus bus = Frames.holding(2);
-        bus.start(2, 9L, 12);
-        bus.lose();
-        bus.send(0, 12, 5, 9, 0L);
-        bus.deliver(true);
-        Check.due("a claiming one is not reached", bus.incoming(2), 0);
-        bus.tick(250);
-        bus.deliver(true);
-        Check.due("a holding one is", bus.incoming(2), 1);
-        Check.due("with another address not", bus.incoming(1), 0);
     }
 
     private static void twoWithOneAddress() {

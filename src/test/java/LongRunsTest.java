@@ -1,7 +1,10 @@
-/** Long runs of mixed calls, each answer and all that can be seen afterwards compared with PlainModel. */
+/**
+ * Long runs of mixed calls, every answer compared with PlainModel: after each call that does something one
+ * that asks, and at the end all that ask. That keeps each run within the 512 calls of an object.
+ */
 public final class LongRunsTest {
-    private static final int RUNS = 3000;
-    private static final int CALLS = 400;
+    private static final int RUNS = 12000;
+    private static final int ACTS = 200;
     private static final int[] ADDRESSES = {10, 10, 11, 12, 128, 128, 129, 130, 131, 0, 253};
     private static final int[] ODD = {-1, 254, 256, 5, Integer.MIN_VALUE, Integer.MAX_VALUE};
     private static final int[] TIMES = {1, 49, 50, 51, 100, 249, 250, 499, 500, 550, 750, 1050, 1250, 2000};
@@ -16,10 +19,11 @@ public final class LongRunsTest {
             bus = new AddressClaimBus();
             model = new PlainModel();
             Check.of("run " + run);
-            for (int i = 0; i < CALLS; i++) {
-                call(run % 4);
-                compare();
+            for (int i = 0; i < ACTS; i++) {
+                act(run % 4);
+                ask(below(12), below(7) - 1, below(7) - 1);
             }
+            askAll();
         }
         Check.end();
     }
@@ -39,7 +43,7 @@ public final class LongRunsTest {
     }
 
     /** The styles differ in how many frames are lost or kept and how many functions are stopped. */
-    private static void call(int style) {
+    private static void act(int style) {
         int choice = below(100);
         if (choice < (style == 3 ? 12 : 5)) {
             start();
@@ -89,23 +93,37 @@ public final class LongRunsTest {
                 bus.send(f, target, group, size, bytes), model.send(f, target, group, size, bytes));
     }
 
-    private static void compare() {
-        Check.due("waiting()", bus.waiting(), model.waiting());
-        Check.due("identifier()", bus.identifier(), model.identifier());
-        Check.due("data()", bus.data(), model.data());
-        Check.due("overflowed()", bus.overflowed(), model.overflowed());
-        for (int f = -1; f < 6; f++) {
-            Check.due("state(" + f + ")", bus.state(f), model.state(f));
-            Check.due("address(" + f + ")", bus.address(f), model.address(f));
-            Check.due("outgoing(" + f + ")", bus.outgoing(f), model.outgoing(f));
-            Check.due("incoming(" + f + ")", bus.incoming(f), model.incoming(f));
-            Check.due("delivered(" + f + ")", bus.delivered(f), model.delivered(f));
-            for (int g = -1; g < 6; g++) {
-                Check.due("noted(" + f + ", " + g + ")", bus.noted(f, g), model.noted(f, g));
-                Check.due("message(" + f + ", " + g + ")", bus.message(f, g), model.message(f, g));
+    private static void askAll() {
+        for (int question = 0; question < 4; question++) {
+            ask(question, 0, 0);
+        }
+        for (int f = 0; f < 5; f++) {
+            for (int question = 4; question < 10; question++) {
+                ask(question, f, 0);
             }
-            int i = below(52) - 1;
-            Check.due("byteOf(" + f + ", " + i + ")", bus.byteOf(f, i), model.byteOf(f, i));
+            for (int g = 0; g < 5; g++) {
+                ask(10, f, g);
+                ask(11, f, g);
+            }
+        }
+    }
+
+    /** The first four questions need no function, only the last two need g. */
+    private static void ask(int question, int f, int g) {
+        int i = below(52) - 1;
+        switch (question) {
+            case 0 -> Check.due("waiting()", bus.waiting(), model.waiting());
+            case 1 -> Check.due("identifier()", bus.identifier(), model.identifier());
+            case 2 -> Check.due("data()", bus.data(), model.data());
+            case 3 -> Check.due("overflowed()", bus.overflowed(), model.overflowed());
+            case 4 -> Check.due("state(" + f + ")", bus.state(f), model.state(f));
+            case 5 -> Check.due("address(" + f + ")", bus.address(f), model.address(f));
+            case 6 -> Check.due("outgoing(" + f + ")", bus.outgoing(f), model.outgoing(f));
+            case 7 -> Check.due("incoming(" + f + ")", bus.incoming(f), model.incoming(f));
+            case 8 -> Check.due("delivered(" + f + ")", bus.delivered(f), model.delivered(f));
+            case 9 -> Check.due("byteOf(" + f + ", " + i + ")", bus.byteOf(f, i), model.byteOf(f, i));
+            case 10 -> Check.due("noted(" + f + ", " + g + ")", bus.noted(f, g), model.noted(f, g));
+            default -> Check.due("message(" + f + ", " + g + ")", bus.message(f, g), model.message(f, g));
         }
     }
 }

@@ -5,8 +5,13 @@ public final class PromiseTest {
     public static void main(String[] args) {
         newObject();
         start();
+        startAddresses();
+        startOfNoFunction();
+        startOfOneThatIsNotOff();
+        startWithTheNameOfAnother();
         startAfresh();
         stop();
+        stopInEachState();
         stopTakesFramesAway();
         busy();
         state();
@@ -15,6 +20,8 @@ public final class PromiseTest {
         request();
         send();
         sendRefused();
+        sendAtTheEdges();
+        sendAfterAnEnd();
         waiting();
         identifier();
         data();
@@ -22,7 +29,9 @@ public final class PromiseTest {
         deliverKeeping();
         lose();
         overflowed();
+        overflowedInAllCalls();
         tick();
+        tickAtTheEdges();
         outgoing();
         incoming();
         delivered();
@@ -36,8 +45,19 @@ public final class PromiseTest {
         AddressClaimBus bus = new AddressClaimBus();
         for (int f = 0; f < 5; f++) {
             Check.due("state", bus.state(f), 0);
+            Check.due("address", bus.address(f), -1);
+            Check.due("outgoing", bus.outgoing(f), -1);
+            Check.due("incoming", bus.incoming(f), -1);
+            Check.due("delivered", bus.delivered(f), -1);
+            Check.due("message", bus.message(f, 0), -1);
+            Check.due("byteOf", bus.byteOf(f, 0), -1);
+            Check.due("noted", bus.noted(f, 4 - f), -1);
             Check.due("busy(f, false)", bus.busy(f, false), false);
         }
+        Check.due("identifier()", bus.identifier(), -1);
+        Check.due("data()", bus.data(), 0L);
+        Check.due("deliver(false)", bus.deliver(false), false);
+        Check.due("lose()", bus.lose(), false);
         Check.due("waiting()", bus.waiting(), 0);
         Check.due("overflowed()", bus.overflowed(), 0);
         Check.due("tick(2000)", bus.tick(2000), 0);
@@ -46,25 +66,71 @@ public final class PromiseTest {
     private static void start() {
         Check.of("promise 2");
         AddressClaimBus bus = new AddressClaimBus();
-        for (int f : NO_FUNCTIONS) {
-            Check.due("start of no function", bus.start(f, 1L, 10), false);
-        }
-        Check.due("start at -1", bus.start(0, 1L, -1), false);
-        Check.due("start at 254", bus.start(0, 1L, 254), false);
-        Check.due("waiting()", bus.waiting(), 0);
-        Check.due("start at 0", bus.start(0, 1L, 0), true);
-        Check.due("start at 253", bus.start(4, Long.MIN_VALUE, 253), true);
-        Check.due("started already", bus.start(0, 2L, 10), false);
-        Check.due("name of another", bus.start(1, 1L, 10), false);
-        Check.due("waiting()", bus.waiting(), 2);
-        Check.due("address(0)", bus.address(0), 0);
-        Check.due("address(4)", bus.address(4), 253);
+        Check.due("start(0)", bus.start(0, 1L, 10), true);
+        Check.due("waiting()", bus.waiting(), 1);
+        Check.due("identifier()", bus.identifier(), Frames.claim(10));
+        Check.due("address(0)", bus.address(0), 10);
         Check.due("state(0)", bus.state(0), 1);
         Check.due("outgoing(0)", bus.outgoing(0), 0);
         Check.due("incoming(0)", bus.incoming(0), 0);
         Check.due("delivered(0)", bus.delivered(0), 0);
-        bus.stop(0);
-        Check.due("name of one that is off", bus.start(1, 1L, 10), true);
+        Check.due("noted(0, 1)", bus.noted(0, 1), -1);
+    }
+
+    private static void startAddresses() {
+        Check.of("promise 2, address is not 0 .. 253");
+        AddressClaimBus bus = new AddressClaimBus();
+        for (int address : new int[] {-1, 254, 255, 256, Integer.MIN_VALUE, Integer.MAX_VALUE}) {
+            Check.due("start at " + address, bus.start(0, 1L, address), false);
+        }
+        Check.due("waiting()", bus.waiting(), 0);
+        Check.due("state(0)", bus.state(0), 0);
+        Check.due("start at 0", bus.start(0, 1L, 0), true);
+        Check.due("start at 253", bus.start(4, 2L, 253), true);
+        Check.due("address(0)", bus.address(0), 0);
+        Check.due("address(4)", bus.address(4), 253);
+    }
+
+    private static void startOfNoFunction() {
+        Check.of("promise 2, f is not 0 .. 4");
+        AddressClaimBus bus = new AddressClaimBus();
+        for (int f : NO_FUNCTIONS) {
+            Check.due("start(" + f + ")", bus.start(f, 1L, 10), false);
+        }
+        Check.due("waiting()", bus.waiting(), 0);
+        for (int f = 0; f < 5; f++) {
+            Check.due("start(" + f + ")", bus.start(f, f, 10 + f), true);
+        }
+        Check.due("waiting()", bus.waiting(), 5);
+    }
+
+    private static void startOfOneThatIsNotOff() {
+        Check.of("promise 2, it is not off");
+        AddressClaimBus bus = Frames.inEachState();
+        for (int f = 1; f <= 3; f++) {
+            int address = bus.address(f);
+            Check.due("start(" + f + ")", bus.start(f, 99L, 30), false);
+            Check.due("state", bus.state(f), f);
+            Check.due("address", bus.address(f), address);
+        }
+        Check.due("waiting()", bus.waiting(), 0);
+        Check.due("99 is the name of nobody", bus.start(0, 99L, 30), true);
+    }
+
+    private static void startWithTheNameOfAnother() {
+        Check.of("promise 2, another function that is not off has this name");
+        AddressClaimBus bus = Frames.inEachState();
+        for (long name = 11L; name <= 13L; name++) {
+            Check.due("name " + name, bus.start(0, name, 30), false);
+        }
+        Check.due("state(0)", bus.state(0), 0);
+        bus.stop(3);
+        Check.due("the name of one that is off", bus.start(0, 13L, 30), true);
+        Check.due("which can't have it now", bus.start(3, 13L, 20), false);
+        bus.stop(1);
+        Check.due("its own name of before", bus.start(1, 11L, 20), true);
+        bus = new AddressClaimBus();
+        Check.due("name 0, which no function had", bus.start(0, 0L, 20), true);
     }
 
     private static void startAfresh() {
@@ -109,6 +175,19 @@ public final class PromiseTest {
         bus.stop(3);
         Check.due("nor the 250 ms", bus.tick(2000), 0);
         Check.due("state(3)", bus.state(3), 0);
+    }
+
+    private static void stopInEachState() {
+        Check.of("promise 3, in each state");
+        AddressClaimBus bus = Frames.inEachState();
+        for (int f = 1; f <= 3; f++) {
+            Check.due("stop(" + f + ")", bus.stop(f), true);
+            Check.due("state", bus.state(f), 0);
+            Check.due("address", bus.address(f), -1);
+            Check.due("stop(" + f + ") again", bus.stop(f), false);
+        }
+        Check.due("no 250 ms run", bus.tick(2000), 0);
+        Check.due("state(1)", bus.state(1), 0);
     }
 
     private static void stopTakesFramesAway() {
@@ -285,6 +364,49 @@ public final class PromiseTest {
         Check.due("waiting()", bus.waiting(), 3);
     }
 
+    private static void sendAtTheEdges() {
+        Check.of("promise 9, target is not 0 .. 253 or 255, or group or size is out of range");
+        AddressClaimBus bus = Frames.holding(2);
+        for (int far : new int[] {Integer.MIN_VALUE, -1, Integer.MAX_VALUE}) {
+            Check.due("target " + far, bus.send(0, far, 1, 9, 0L), false);
+            Check.due("group " + far, bus.send(0, 11, far, 9, 0L), false);
+            Check.due("size " + far, bus.send(0, 11, 1, far, 0L), false);
+        }
+        Check.due("size 0", bus.send(0, 11, 1, 0, 0L), false);
+        Check.due("waiting()", bus.waiting(), 0);
+        int[][] accepted = {
+            {0, 1, 9}, {253, 1, 9}, {255, 1, 9}, {9, 1, 9}, {11, 1, 9}, {11, 0, 9}, {11, 262143, 9}, {11, 1, 49},
+        };
+        for (int[] row : accepted) {
+            bus = Frames.holding(2);
+            Check.due("send to " + row[0], bus.send(0, row[0], row[1], row[2], 0L), true);
+            Check.due("waiting()", bus.waiting(), 1);
+        }
+        bus = new AddressClaimBus();
+        bus.start(0, 1L, 0);
+        bus.start(1, 2L, 253);
+        Frames.deliverAll(bus);
+        bus.tick(250);
+        Check.due("its own address 0", bus.send(0, 0, 1, 9, 0L), false);
+        Check.due("its own address 253", bus.send(1, 253, 1, 9, 0L), false);
+    }
+
+    private static void sendAfterAnEnd() {
+        Check.of("promise 9, it has an outgoing session: not when that has ended");
+        AddressClaimBus bus = Frames.holding(2);
+        bus.send(0, 255, 1, 9, 0L);
+        Check.due("tick(99)", bus.tick(99), 1);
+        Check.due("the last packet is not sent", bus.send(0, 255, 1, 9, 0L), false);
+        bus.tick(1);
+        Check.due("it is sent", bus.send(0, 11, 1, 9, 0L), true);
+        Check.due("a session again", bus.outgoing(0), 2);
+        bus.tick(1249);
+        Check.due("not yet given up", bus.send(0, 11, 1, 9, 0L), false);
+        bus.tick(1);
+        Check.due("given up", bus.send(0, 255, 1, 9, 0L), true);
+        Check.due("a session again", bus.outgoing(0), 1);
+    }
+
     private static void waiting() {
         Check.of("promise 10");
         AddressClaimBus bus = new AddressClaimBus();
@@ -417,6 +539,15 @@ public final class PromiseTest {
         Check.due("overflowed()", bus.overflowed(), 5);
     }
 
+    private static void overflowedInAllCalls() {
+        Check.of("promise 15, in an object's 512 calls");
+        AddressClaimBus bus = new AddressClaimBus();
+        bus.start(0, 7L, 11);
+        Frames.fill(bus, 0, 509);
+        Check.due("waiting()", bus.waiting(), 48);
+        Check.due("overflowed()", bus.overflowed(), 462);
+    }
+
     private static void tick() {
         Check.of("promise 16");
         AddressClaimBus bus = new AddressClaimBus();
@@ -435,6 +566,22 @@ public final class PromiseTest {
         Check.due("tick(2000)", bus.tick(2000), 0);
         bus.send(0, 255, 1, 49, 0L);
         Check.due("seven packets in one tick", bus.tick(2000), 7);
+    }
+
+    private static void tickAtTheEdges() {
+        Check.of("promise 16, 1 .. 2000");
+        AddressClaimBus bus = Frames.holding(1);
+        bus.send(0, 50, 1, 9, 0L);
+        for (int ms : new int[] {0, -1, -1250, 2001, Integer.MIN_VALUE, Integer.MAX_VALUE}) {
+            Check.due("tick(" + ms + ")", bus.tick(ms), -1);
+        }
+        Check.due("no time passed", bus.tick(1249), 0);
+        Check.due("tick(1)", bus.tick(1), 1);
+        bus.start(1, 2L, 11);
+        Check.due("tick(2000)", bus.tick(2000), 1);
+        bus.start(2, 3L, 12);
+        Check.due("at its end too", bus.tick(250), 1);
+        Check.due("state(2)", bus.state(2), 2);
     }
 
     private static void outgoing() {

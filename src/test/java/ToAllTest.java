@@ -1,18 +1,19 @@
-/** What "Terms" says of messages to all, and of the order in which timers go off. */
+/** What "Terms" says of messages to all that come in. */
 public final class ToAllTest {
     public static void main(String[] args) {
         wholeMessage();
-        reachesThoseThatHold();
-        gapEndsTheSession();
-        repeatedPacketHasNoEffect();
         allAgainBeginsAnew();
-        abortAndDoneHaveNoEffect();
-        timersByTimeAndNumber();
-        timersOfOneFunction();
-        incomingInTheOrderTheyBegan();
-        orderWhenOneBeginsAnew();
-        orderWhenOneEnds();
-        timeWhileTimersGoOff();
+        abortHasNoEffect();
+        allWhenFull();
+        allAgainWhenFull();
+        allBesideADirectedSession();
+        timerOf750();
+        packetBeforeTheExpectedOne();
+        packetBehindTheExpectedOne();
+        lastPacketOfTheMessage();
+        packetOfAnotherSource();
+        directedPacketsAndSessionsToAll();
+        packetsToAllAndDirectedSessions();
         Check.end();
     }
 
@@ -45,64 +46,6 @@ public final class ToAllTest {
         Check.due("no timer is left", bus.tick(2000), 0);
     }
 
-    private static void reachesThoseThatHold() {
-        Check.of("to all that hold");
-        AddressClaimBus bus = Frames.holding(2);
-        bus.start(2, 9L, 12);
-        bus.lose();
-        bus.send(0, 255, 1, 9, 0L);
-        bus.deliver(true);
-        Check.due("holding", bus.incoming(1), 1);
-        Check.due("claiming", bus.incoming(2), 0);
-        Check.due("the sender", bus.incoming(0), 0);
-    }
-
-    private static void gapEndsTheSession() {
-        Check.of("a lost packet of a message to all");
-        AddressClaimBus bus = Frames.holding(2);
-        bus.send(0, 255, 1, 20, 0L);
-        bus.deliver(false);
-        bus.tick(100);
-        bus.lose();
-        Check.due("incoming(1)", bus.incoming(1), 1);
-        bus.deliver(false);
-        Check.due("incoming(1)", bus.incoming(1), 0);
-        Check.due("waiting()", bus.waiting(), 0);
-        bus.tick(50);
-        bus.deliver(false);
-        Check.due("delivered(1)", bus.delivered(1), 0);
-        bus.send(0, 255, 1, 20, 0L);
-        bus.deliver(false);
-        bus.stop(0);
-        Check.due("tick(749)", bus.tick(749), 0);
-        Check.due("incoming(1)", bus.incoming(1), 1);
-        Check.due("its timer ends it", bus.tick(1), 1);
-        Check.due("incoming(1)", bus.incoming(1), 0);
-        Check.due("waiting()", bus.waiting(), 0);
-    }
-
-    private static void repeatedPacketHasNoEffect() {
-        Check.of("a packet of a message to all twice");
-        AddressClaimBus bus = Frames.holding(2);
-        bus.send(0, 255, 1, 20, 0L);
-        bus.deliver(false);
-        bus.tick(50);
-        bus.deliver(true);
-        bus.tick(100);
-        bus.deliver(false);
-        Check.due("incoming(1)", bus.incoming(1), 1);
-        Check.due("tick(649)", bus.tick(649), 0);
-        Check.due("it set no timer", bus.tick(1), 1);
-        Check.due("incoming(1)", bus.incoming(1), 0);
-        bus = Frames.holding(2);
-        bus.send(0, 255, 1, 20, 0L);
-        bus.deliver(false);
-        bus.tick(150);
-        bus.deliver(true);
-        Frames.deliver(bus, 3);
-        Check.due("delivered(1)", bus.delivered(1), 1);
-    }
-
     private static void allAgainBeginsAnew() {
         Check.of("ALL from a source with a session");
         AddressClaimBus bus = Frames.holding(4);
@@ -127,146 +70,233 @@ public final class ToAllTest {
         Check.due("incoming(3)", bus.incoming(3), 1);
     }
 
-    private static void abortAndDoneHaveNoEffect() {
-        Check.of("ABORT and sessions to all");
-        AddressClaimBus bus = Frames.holding(2);
-        bus.send(0, 11, 7, 9, 0L);
-        bus.tick(1250);
-        bus.lose();
-        Check.due("data()", bus.data(), Frames.abort(3, 7));
-        bus.send(1, 255, 7, 49, 0L);
-        bus.deliver(true);
-        Check.due("an outgoing one to all goes on", bus.outgoing(1), 1);
-        bus.lose();
-        bus.stop(1);
-        bus.start(1, 2L, 11);
-        bus.lose();
-        bus.tick(250);
-        bus.send(0, 11, 7, 9, 0L);
-        bus.lose();
-        bus.tick(1250);
+    private static void abortHasNoEffect() {
+        Check.of("An ABORT from the source of a session to all, with its group");
+        AddressClaimBus bus = Frames.holding(4);
+        for (int f = 2; f <= 3; f++) {
+            bus.send(f, 10, f, 9, 0L);
+            bus.deliver(false);
+            bus.lose();
+        }
         bus.send(0, 255, 7, 9, 0L);
-        Check.due("the ABORT is next", bus.data(), Frames.abort(3, 7));
-        bus.deliver(true);
-        bus.lose();
         bus.deliver(false);
-        Check.due("incoming(1)", bus.incoming(1), 1);
-    }
-
-    private static void timersByTimeAndNumber() {
-        Check.of("timers of several functions");
-        for (int first = 0; first < 4; first++) {
-            AddressClaimBus bus = Frames.holding(5);
-            for (int f = 3; f >= first; f--) {
-                bus.send(f, 40, f, 9, 0L);
-            }
-            Frames.lose(bus, 4 - first);
-            leaveRoomForOne(bus);
-            Check.due("tick(1250)", bus.tick(1250), 4 - first);
-            Check.due("overflowed()", bus.overflowed(), 3 - first);
-            Frames.lose(bus, 47);
-            Frames.deliverThis(bus, Frames.control(40, 10 + first), Frames.abort(3, first));
+        bus.send(1, 10, 7, 9, 0L);
+        bus.deliver(false);
+        Frames.deliverThis(bus, Frames.control(11, 10), Frames.abort(2, 7));
+        Check.due("it ends the outgoing session", bus.outgoing(1), 22);
+        Check.due("but not the one to all", bus.incoming(1), 1);
+        for (int k = 1; k <= 2; k++) {
+            bus.tick(50);
+            bus.deliver(false);
         }
-        AddressClaimBus bus = Frames.holding(5);
-        bus.send(1, 40, 1, 9, 0L);
-        bus.tick(1);
-        bus.send(0, 40, 0, 9, 0L);
-        Frames.lose(bus, 2);
-        leaveRoomForOne(bus);
-        Check.due("tick(1250)", bus.tick(1250), 2);
-        Frames.lose(bus, 47);
-        Frames.deliverThis(bus, Frames.control(40, 11), Frames.abort(3, 1));
-    }
-
-    /** With room for one frame alone, the timer that goes off first is the one whose frame waits. */
-    private static void leaveRoomForOne(AddressClaimBus bus) {
-        Check.due("waiting()", bus.waiting(), 0);
-        for (int i = 0; i < 47; i++) {
-            bus.request(4);
-        }
-    }
-
-    private static void timersOfOneFunction() {
-        Check.of("the outgoing timer before the incoming ones");
-        AddressClaimBus bus = Frames.holding(5);
-        bus.send(0, 11, 5, 9, 0L);
-        bus.deliver(false);
-        bus.send(1, 60, 6, 9, 0L);
-        Frames.lose(bus, 2);
-        bus.stop(0);
-        leaveRoomForOne(bus);
-        Check.due("tick(1250)", bus.tick(1250), 2);
-        Check.due("overflowed()", bus.overflowed(), 1);
-        Frames.lose(bus, 47);
-        Frames.deliverThis(bus, Frames.control(60, 11), Frames.abort(3, 6));
-    }
-
-    private static void incomingInTheOrderTheyBegan() {
-        Check.of("incoming timers in the order in which the sessions began");
-        AddressClaimBus bus = Frames.holding(5);
-        openAt11(bus, 0);
-        openAt11(bus, 2);
-        firstToGrant(bus, 0);
-
-        bus = Frames.holding(5);
-        openAt11(bus, 2);
-        openAt11(bus, 0);
-        firstToGrant(bus, 2);
-    }
-
-    private static void orderWhenOneBeginsAnew() {
-        Check.of("order of sessions when one begins anew");
-        AddressClaimBus bus = Frames.holding(5);
-        bus.send(2, 11, 2, 9, 0L);
-        bus.deliver(true);
-        openAt11(bus, 0);
-        Check.due("the OPEN that was kept", bus.identifier(), Frames.control(11, 12));
-        bus.deliver(false);
-        firstToGrant(bus, 0);
-    }
-
-    private static void orderWhenOneEnds() {
-        Check.of("order of sessions when the first ends and another begins");
-        AddressClaimBus bus = Frames.holding(5);
-        bus.send(2, 11, 2, 9, 0L);
-        bus.deliver(false);
-        openAt11(bus, 0);
-        Check.due("the GRANT for 2", bus.identifier(), Frames.control(12, 11));
-        Frames.deliver(bus, 3);
         Check.due("delivered(1)", bus.delivered(1), 1);
-        openAt11(bus, 3);
-        firstToGrant(bus, 0);
     }
 
-    /** Function f opens a session with function 1, with its number as group; the answer is lost. */
-    private static void openAt11(AddressClaimBus bus, int f) {
-        bus.send(f, 11, f, 9, 0L);
-        Check.due("identifier()", bus.identifier(), Frames.control(11, 10 + f));
-        bus.deliver(false);
-        bus.lose();
+    private static void allWhenFull() {
+        Check.of("An ALL: else, if it has two incoming sessions, that is all");
+        for (int kinds = 0; kinds < 4; kinds++) {
+            AddressClaimBus bus = Frames.holding(5);
+            Frames.beginAtFunction4(bus, 0, (kinds & 1) != 0);
+            Frames.beginAtFunction4(bus, 1, (kinds & 2) != 0);
+            bus.send(2, 255, 2, 9, 0L);
+            bus.deliver(false);
+            Check.due("incoming(4)", bus.incoming(4), 2);
+            Check.due("no answer", bus.waiting(), 0);
+            for (int f = 0; f < 4; f++) {
+                bus.stop(f);
+            }
+            int late = kinds == 3 ? 2 : kinds == 0 ? 0 : 1;
+            Check.due("the sessions to all end as before", bus.tick(750), late);
+            Check.due("the directed ones ask as before", bus.tick(500), 2 - late);
+            Check.due("waiting()", bus.waiting(), 2 - late);
+        }
     }
 
-    private static void firstToGrant(AddressClaimBus bus, int group) {
+    private static void allAgainWhenFull() {
+        Check.of("is there an incoming session to all from this source, that one ends without a trace");
+        for (int again = 0; again < 2; again++) {
+            AddressClaimBus bus = Frames.holding(5);
+            Frames.beginAtFunction4(bus, 0, true);
+            Frames.beginAtFunction4(bus, 1, true);
+            Frames.restart(bus, again);
+            Frames.lose(bus, 9);
+            bus.send(again, 255, 7, 9, 0L);
+            bus.deliver(false);
+            Check.due("incoming(4)", bus.incoming(4), 2);
+            Check.due("no answer", bus.waiting(), 0);
+            bus.tick(50);
+            Check.due("packet 1 is expected again", bus.data() & 255L, 1);
+            bus.deliver(false);
+            for (int f = 0; f < 4; f++) {
+                bus.stop(f);
+            }
+            Check.due("the other's timer runs on", bus.tick(450), 1);
+            Check.due("incoming(4)", bus.incoming(4), 1);
+            Check.due("the timer of the new one", bus.tick(299), 0);
+            Check.due("tick(1)", bus.tick(1), 1);
+            Check.due("delivered(4)", bus.delivered(4), 0);
+        }
+    }
+
+    private static void allBesideADirectedSession() {
+        Check.of("an incoming session to all from this source: a directed one is none");
+        AddressClaimBus bus = Frames.holding(5);
+        Frames.beginAtFunction4(bus, 0, false);
+        Frames.restart(bus, 0);
+        Frames.beginAtFunction4(bus, 0, true);
+        Check.due("one of each kind from one source", bus.incoming(4), 2);
+        bus = Frames.holding(5);
+        Frames.beginAtFunction4(bus, 0, false);
+        Frames.beginAtFunction4(bus, 1, false);
+        Frames.restart(bus, 0);
+        Frames.beginAtFunction4(bus, 0, true);
+        Check.due("incoming(4)", bus.incoming(4), 2);
         bus.stop(0);
+        bus.stop(1);
         bus.stop(2);
         bus.stop(3);
-        Check.due("incoming(1)", bus.incoming(1), 2);
-        Frames.lose(bus, 9);
-        leaveRoomForOne(bus);
-        Check.due("tick(1250)", bus.tick(1250), 2);
-        Check.due("overflowed()", bus.overflowed(), 1);
-        Frames.lose(bus, 47);
-        Check.due("data()", bus.data(), Frames.grant(2, 1, group));
+        Check.due("no session to all", bus.tick(999), 0);
+        Check.due("both directed ones", bus.tick(1), 2);
     }
 
-    private static void timeWhileTimersGoOff() {
-        Check.of("the time while timers go off");
-        AddressClaimBus bus = Frames.holding(1);
+    private static void timerOf750() {
+        Check.of("expected packet 1, timer 750 ms; else the timer is 750 ms. Its timer goes off: the session ends");
+        for (int packets = 0; packets <= 6; packets++) {
+            AddressClaimBus bus = Frames.holding(2);
+            bus.send(0, 255, 1, 49, 0L);
+            bus.deliver(false);
+            for (int k = 1; k <= packets; k++) {
+                bus.tick(50);
+                bus.deliver(false);
+            }
+            bus.stop(0);
+            Check.due("tick(749) after packet " + packets, bus.tick(749), 0);
+            Check.due("incoming(1)", bus.incoming(1), 1);
+            Check.due("tick(1)", bus.tick(1), 1);
+            Check.due("incoming(1)", bus.incoming(1), 0);
+            Check.due("without a word", bus.waiting(), 0);
+            Check.due("nothing more", bus.tick(2000), 0);
+        }
+    }
+
+    private static void packetBeforeTheExpectedOne() {
+        Check.of("is k less than the expected one, no effect");
+        for (int k = 1; k <= 6; k++) {
+            AddressClaimBus bus = Frames.holding(2);
+            bus.send(0, 255, 1, 49, 0L);
+            bus.deliver(false);
+            bus.tick(50 * k);
+            Frames.deliver(bus, k - 1);
+            bus.deliver(true);
+            bus.tick(20);
+            Check.due("packet", bus.data() & 255L, k);
+            bus.deliver(true);
+            bus.stop(0);
+            Check.due("incoming(1)", bus.incoming(1), 1);
+            Check.due("the timer runs on", bus.tick(729), 0);
+            Check.due("tick(1)", bus.tick(1), 1);
+        }
+    }
+
+    private static void packetBehindTheExpectedOne() {
+        Check.of("is it greater, the session ends");
+        for (int k = 2; k <= 7; k++) {
+            AddressClaimBus bus = Frames.holding(2);
+            bus.send(0, 255, 1, 49, 0L);
+            bus.deliver(false);
+            bus.tick(350);
+            Frames.deliver(bus, k - 2);
+            bus.lose();
+            Check.due("packet", bus.data() & 255L, k);
+            Check.due("incoming(1)", bus.incoming(1), 1);
+            bus.deliver(false);
+            Check.due("incoming(1)", bus.incoming(1), 0);
+            Frames.deliverAll(bus);
+            Check.due("delivered(1)", bus.delivered(1), 0);
+            Check.due("no timer is left", bus.tick(2000), 0);
+        }
+    }
+
+    private static void lastPacketOfTheMessage() {
+        Check.of("if there is no such packet, the message is delivered and the session ends");
+        int[][] sizeAndPackets = {{9, 2}, {14, 2}, {15, 3}, {21, 3}, {42, 6}, {43, 7}, {49, 7}};
+        for (int[] row : sizeAndPackets) {
+            AddressClaimBus bus = Frames.holding(2);
+            bus.send(0, 255, 1, row[0], 0L);
+            bus.deliver(false);
+            bus.tick(350);
+            Check.due("packets", bus.waiting(), row[1]);
+            Frames.deliver(bus, row[1] - 1);
+            Check.due("delivered(1)", bus.delivered(1), 0);
+            Check.due("incoming(1)", bus.incoming(1), 1);
+            bus.deliver(false);
+            Check.due("delivered(1)", bus.delivered(1), 1);
+            Check.due("incoming(1)", bus.incoming(1), 0);
+            Check.due("no DONE", bus.waiting(), 0);
+            Check.due("last byte", bus.byteOf(1, row[0] - 1), row[0] - 1);
+        }
+    }
+
+    private static void packetOfAnotherSource() {
+        Check.of("A packet k with target 255 from its source");
+        AddressClaimBus bus = Frames.holding(3);
         bus.send(0, 255, 1, 9, 0L);
-        Check.due("tick(99)", bus.tick(99), 1);
-        Check.due("the second is due 50 ms after the first was", bus.tick(1), 1);
-        bus.send(0, 255, 1, 49, 0L);
-        Check.due("tick(349)", bus.tick(349), 6);
-        Check.due("tick(1)", bus.tick(1), 1);
+        bus.deliver(false);
+        bus.send(2, 255, 1, 9, 0L);
+        bus.lose();
+        bus.tick(100);
+        Frames.lose(bus, 2);
+        Check.due("packet 1 of function 2", bus.identifier(), Frames.packet(255, 12));
+        Frames.deliver(bus, 2);
+        Check.due("the session from 10 goes on", bus.incoming(1), 1);
+        Check.due("delivered(1)", bus.delivered(1), 0);
+    }
+
+    /**
+     * Functions 0 and 2 both have the address 10; function 1 has a session to all from the one and a directed
+     * one from the other, and expects packet 1 of both. Both packets of each wait, the directed ones first.
+     */
+    private static AddressClaimBus bothKindsFromOneSource() {
+        AddressClaimBus bus = Frames.holding(2);
+        bus.start(2, 9L, 10);
+        bus.lose();
+        bus.tick(250);
+        bus.send(0, 255, 1, 9, 100L);
+        bus.deliver(false);
+        bus.lose();
+        bus.send(2, 11, 1, 9, 200L);
+        Frames.deliver(bus, 2);
+        bus.tick(100);
+        Check.due("incoming(1)", bus.incoming(1), 2);
+        Check.due("waiting()", bus.waiting(), 4);
+        Check.due("identifier()", bus.identifier(), Frames.packet(11, 10));
+        return bus;
+    }
+
+    private static void directedPacketsAndSessionsToAll() {
+        Check.of("Directed packets belong to directed sessions alone");
+        AddressClaimBus bus = bothKindsFromOneSource();
+        Frames.deliver(bus, 2);
+        Check.due("delivered(1)", bus.delivered(1), 1);
+        Check.due("directed", bus.message(1, 3), 0);
+        Check.due("incoming(1)", bus.incoming(1), 1);
+        Frames.deliver(bus, 2);
+        Check.due("delivered(1)", bus.delivered(1), 2);
+        Check.due("to all", bus.message(1, 3), 1);
+        Check.due("byteOf(1, 0)", bus.byteOf(1, 0), 100);
+    }
+
+    private static void packetsToAllAndDirectedSessions() {
+        Check.of("those with target 255 to sessions to all");
+        AddressClaimBus bus = bothKindsFromOneSource();
+        Frames.lose(bus, 2);
+        Frames.deliver(bus, 2);
+        Check.due("delivered(1)", bus.delivered(1), 1);
+        Check.due("to all", bus.message(1, 3), 1);
+        Check.due("incoming(1)", bus.incoming(1), 1);
+        bus.stop(0);
+        bus.stop(2);
+        Check.due("the directed one is late", bus.tick(1150), 1);
+        Check.due("and expects packet 1", bus.data(), Frames.grant(2, 1, 1));
     }
 }
