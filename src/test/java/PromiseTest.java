@@ -1,37 +1,22 @@
-/** For each promise of the document: ordinary inputs, the edges that it names, and wrong inputs. */
+/** For each promise of the document: ordinary inputs. PromiseEdgesTest has the edges and the wrong inputs. */
 public final class PromiseTest {
-    private static final int[] NO_FUNCTIONS = {-1, 5, Integer.MIN_VALUE, Integer.MAX_VALUE};
-
     public static void main(String[] args) {
         newObject();
         start();
-        startAddresses();
-        startOfNoFunction();
-        startOfOneThatIsNotOff();
-        startWithTheNameOfAnother();
-        startAfresh();
         stop();
-        stopInEachState();
-        stopTakesFramesAway();
         busy();
         state();
         address();
         noted();
         request();
         send();
-        sendRefused();
-        sendAtTheEdges();
-        sendAfterAnEnd();
         waiting();
         identifier();
         data();
         deliver();
-        deliverKeeping();
         lose();
         overflowed();
-        overflowedInAllCalls();
         tick();
-        tickAtTheEdges();
         outgoing();
         incoming();
         delivered();
@@ -77,91 +62,9 @@ public final class PromiseTest {
         Check.due("noted(0, 1)", bus.noted(0, 1), -1);
     }
 
-    private static void startAddresses() {
-        Check.of("promise 2, address is not 0 .. 253");
-        AddressClaimBus bus = new AddressClaimBus();
-        for (int address : new int[] {-1, 254, 255, 256, Integer.MIN_VALUE, Integer.MAX_VALUE}) {
-            Check.due("start at " + address, bus.start(0, 1L, address), false);
-        }
-        Check.due("waiting()", bus.waiting(), 0);
-        Check.due("state(0)", bus.state(0), 0);
-        Check.due("start at 0", bus.start(0, 1L, 0), true);
-        Check.due("start at 253", bus.start(4, 2L, 253), true);
-        Check.due("address(0)", bus.address(0), 0);
-        Check.due("address(4)", bus.address(4), 253);
-    }
-
-    private static void startOfNoFunction() {
-        Check.of("promise 2, f is not 0 .. 4");
-        AddressClaimBus bus = new AddressClaimBus();
-        for (int f : NO_FUNCTIONS) {
-            Check.due("start(" + f + ")", bus.start(f, 1L, 10), false);
-        }
-        Check.due("waiting()", bus.waiting(), 0);
-        for (int f = 0; f < 5; f++) {
-            Check.due("start(" + f + ")", bus.start(f, f, 10 + f), true);
-        }
-        Check.due("waiting()", bus.waiting(), 5);
-    }
-
-    private static void startOfOneThatIsNotOff() {
-        Check.of("promise 2, it is not off");
-        AddressClaimBus bus = Frames.inEachState();
-        for (int f = 1; f <= 3; f++) {
-            int address = bus.address(f);
-            Check.due("start(" + f + ")", bus.start(f, 99L, 30), false);
-            Check.due("state", bus.state(f), f);
-            Check.due("address", bus.address(f), address);
-        }
-        Check.due("waiting()", bus.waiting(), 0);
-        Check.due("99 is the name of nobody", bus.start(0, 99L, 30), true);
-    }
-
-    private static void startWithTheNameOfAnother() {
-        Check.of("promise 2, another function that is not off has this name");
-        AddressClaimBus bus = Frames.inEachState();
-        for (long name = 11L; name <= 13L; name++) {
-            Check.due("name " + name, bus.start(0, name, 30), false);
-        }
-        Check.due("state(0)", bus.state(0), 0);
-        bus.stop(3);
-        Check.due("the name of one that is off", bus.start(0, 13L, 30), true);
-        Check.due("which can't have it now", bus.start(3, 13L, 20), false);
-        bus.stop(1);
-        Check.due("its own name of before", bus.start(1, 11L, 20), true);
-        bus = new AddressClaimBus();
-        Check.due("name 0, which no function had", bus.start(0, 0L, 20), true);
-    }
-
-    private static void startAfresh() {
-        Check.of("promise 2, started anew");
-        AddressClaimBus bus = Frames.holding(2);
-        bus.send(0, 11, 1, 9, 5L);
-        Frames.deliverAll(bus);
-        bus.send(1, 10, 1, 9, 5L);
-        bus.deliver(false);
-        Check.due("incoming(0)", bus.incoming(0), 1);
-        bus.send(0, 99, 1, 9, 5L);
-        bus.stop(0);
-        Check.due("start(0)", bus.start(0, 1L, 10), true);
-        Check.due("outgoing(0)", bus.outgoing(0), 0);
-        Check.due("incoming(0)", bus.incoming(0), 0);
-        Check.due("noted(0, 1)", bus.noted(0, 1), -1);
-        bus.stop(1);
-        bus.start(1, 2L, 11);
-        Check.due("delivered(1)", bus.delivered(1), 0);
-        Check.due("message(1, 0)", bus.message(1, 0), -1);
-        Check.due("byteOf(1, 0)", bus.byteOf(1, 0), -1);
-        Check.due("outgoing(1)", bus.outgoing(1), 0);
-        Check.due("tick(2000): the two of 250 ms alone", bus.tick(2000), 2);
-    }
-
     private static void stop() {
         Check.of("promise 3");
         AddressClaimBus bus = Frames.holding(2);
-        for (int f : NO_FUNCTIONS) {
-            Check.due("stop of no function", bus.stop(f), false);
-        }
         Check.due("stop of one that is off", bus.stop(2), false);
         bus.send(0, 11, 1, 30, 5L);
         bus.deliver(false);
@@ -177,41 +80,9 @@ public final class PromiseTest {
         Check.due("state(3)", bus.state(3), 0);
     }
 
-    private static void stopInEachState() {
-        Check.of("promise 3, in each state");
-        AddressClaimBus bus = Frames.inEachState();
-        for (int f = 1; f <= 3; f++) {
-            Check.due("stop(" + f + ")", bus.stop(f), true);
-            Check.due("state", bus.state(f), 0);
-            Check.due("address", bus.address(f), -1);
-            Check.due("stop(" + f + ") again", bus.stop(f), false);
-        }
-        Check.due("no 250 ms run", bus.tick(2000), 0);
-        Check.due("state(1)", bus.state(1), 0);
-    }
-
-    private static void stopTakesFramesAway() {
-        Check.of("promise 3, frames");
-        AddressClaimBus bus = Frames.holding(3);
-        bus.request(1);
-        bus.request(0);
-        bus.request(1);
-        bus.request(2);
-        bus.request(1);
-        Check.due("stop(1)", bus.stop(1), true);
-        Check.due("waiting()", bus.waiting(), 2);
-        Check.due("identifier()", bus.identifier(), Frames.request(10));
-        bus.lose();
-        Check.due("identifier()", bus.identifier(), Frames.request(12));
-        Check.due("overflowed()", bus.overflowed(), 0);
-    }
-
     private static void busy() {
         Check.of("promise 4");
         AddressClaimBus bus = Frames.holding(2);
-        for (int f : NO_FUNCTIONS) {
-            Check.due("busy of no function", bus.busy(f, true), false);
-        }
         Check.due("busy(1, true)", bus.busy(1, true), true);
         Check.due("busy(1, true) again", bus.busy(1, true), false);
         bus.send(0, 11, 1, 9, 5L);
@@ -230,9 +101,6 @@ public final class PromiseTest {
     private static void state() {
         Check.of("promise 5");
         AddressClaimBus bus = new AddressClaimBus();
-        for (int f : NO_FUNCTIONS) {
-            Check.due("state of no function", bus.state(f), -1);
-        }
         Check.due("off", bus.state(0), 0);
         bus.start(0, 7L, 10);
         Check.due("claiming", bus.state(0), 1);
@@ -248,9 +116,6 @@ public final class PromiseTest {
     private static void address() {
         Check.of("promise 6");
         AddressClaimBus bus = new AddressClaimBus();
-        for (int f : NO_FUNCTIONS) {
-            Check.due("address of no function", bus.address(f), -1);
-        }
         Check.due("off", bus.address(0), -1);
         bus.start(0, 7L, 10);
         Check.due("claiming", bus.address(0), 10);
@@ -274,10 +139,6 @@ public final class PromiseTest {
         Check.due("noted(0, 1)", bus.noted(0, 1), -1);
         Check.due("a claim reaches not its sender", bus.noted(0, 0), -1);
         Check.due("one that is off notes nothing", bus.noted(2, 0), -1);
-        for (int f : NO_FUNCTIONS) {
-            Check.due("noted by no function", bus.noted(f, 0), -1);
-            Check.due("noted for no function", bus.noted(0, f), -1);
-        }
         bus.deliver(false);
         bus.start(2, 1L, 10);
         bus.deliver(false);
@@ -293,9 +154,6 @@ public final class PromiseTest {
     private static void request() {
         Check.of("promise 8");
         AddressClaimBus bus = Frames.holding(3);
-        for (int f : NO_FUNCTIONS) {
-            Check.due("request of no function", bus.request(f), false);
-        }
         Check.due("request of one that is off", bus.request(3), false);
         Check.due("waiting()", bus.waiting(), 0);
         Check.due("request(1)", bus.request(1), true);
@@ -332,79 +190,6 @@ public final class PromiseTest {
         bus.start(1, 2L, 11);
         bus.tick(250);
         Check.due("send to 253, which nobody has", bus.send(1, 253, 1, 9, 0L), true);
-    }
-
-    private static void sendRefused() {
-        Check.of("promise 9, refused");
-        AddressClaimBus bus = Frames.holding(2);
-        for (int f : NO_FUNCTIONS) {
-            Check.due("send of no function", bus.send(f, 11, 1, 9, 0L), false);
-        }
-        Check.due("send of one that is off", bus.send(2, 11, 1, 9, 0L), false);
-        bus.start(2, 99L, 99);
-        bus.lose();
-        Check.due("send of a claiming one", bus.send(2, 11, 1, 9, 0L), false);
-        Check.due("target -1", bus.send(0, -1, 1, 9, 0L), false);
-        Check.due("target 254", bus.send(0, 254, 1, 9, 0L), false);
-        Check.due("target 256", bus.send(0, 256, 1, 9, 0L), false);
-        Check.due("its own address", bus.send(0, 10, 1, 9, 0L), false);
-        Check.due("group -1", bus.send(0, 11, -1, 9, 0L), false);
-        Check.due("group 262144", bus.send(0, 11, 262144, 9, 0L), false);
-        Check.due("size 8", bus.send(0, 11, 1, 8, 0L), false);
-        Check.due("size 50", bus.send(0, 11, 1, 50, 0L), false);
-        Check.due("outgoing(0)", bus.outgoing(0), 0);
-        Check.due("waiting()", bus.waiting(), 0);
-        Check.due("send(0, ..)", bus.send(0, 11, 1, 9, 0L), true);
-        Check.due("while directed", bus.send(0, 11, 1, 9, 0L), false);
-        Check.due("send(1, ..)", bus.send(1, 255, 1, 9, 0L), true);
-        Check.due("while to all", bus.send(1, 10, 1, 9, 0L), false);
-        bus.start(3, 0L, 11);
-        Frames.deliver(bus, 1);
-        Check.due("send of an unable one", bus.send(1, 10, 1, 9, 0L), false);
-        Check.due("waiting()", bus.waiting(), 3);
-    }
-
-    private static void sendAtTheEdges() {
-        Check.of("promise 9, target is not 0 .. 253 or 255, or group or size is out of range");
-        AddressClaimBus bus = Frames.holding(2);
-        for (int far : new int[] {Integer.MIN_VALUE, -1, Integer.MAX_VALUE}) {
-            Check.due("target " + far, bus.send(0, far, 1, 9, 0L), false);
-            Check.due("group " + far, bus.send(0, 11, far, 9, 0L), false);
-            Check.due("size " + far, bus.send(0, 11, 1, far, 0L), false);
-        }
-        Check.due("size 0", bus.send(0, 11, 1, 0, 0L), false);
-        Check.due("waiting()", bus.waiting(), 0);
-        int[][] accepted = {
-            {0, 1, 9}, {253, 1, 9}, {255, 1, 9}, {9, 1, 9}, {11, 1, 9}, {11, 0, 9}, {11, 262143, 9}, {11, 1, 49},
-        };
-        for (int[] row : accepted) {
-            bus = Frames.holding(2);
-            Check.due("send to " + row[0], bus.send(0, row[0], row[1], row[2], 0L), true);
-            Check.due("waiting()", bus.waiting(), 1);
-        }
-        bus = new AddressClaimBus();
-        bus.start(0, 1L, 0);
-        bus.start(1, 2L, 253);
-        Frames.deliverAll(bus);
-        bus.tick(250);
-        Check.due("its own address 0", bus.send(0, 0, 1, 9, 0L), false);
-        Check.due("its own address 253", bus.send(1, 253, 1, 9, 0L), false);
-    }
-
-    private static void sendAfterAnEnd() {
-        Check.of("promise 9, it has an outgoing session: not when that has ended");
-        AddressClaimBus bus = Frames.holding(2);
-        bus.send(0, 255, 1, 9, 0L);
-        Check.due("tick(99)", bus.tick(99), 1);
-        Check.due("the last packet is not sent", bus.send(0, 255, 1, 9, 0L), false);
-        bus.tick(1);
-        Check.due("it is sent", bus.send(0, 11, 1, 9, 0L), true);
-        Check.due("a session again", bus.outgoing(0), 2);
-        bus.tick(1249);
-        Check.due("not yet given up", bus.send(0, 11, 1, 9, 0L), false);
-        bus.tick(1);
-        Check.due("given up", bus.send(0, 255, 1, 9, 0L), true);
-        Check.due("a session again", bus.outgoing(0), 1);
     }
 
     private static void waiting() {
@@ -476,29 +261,6 @@ public final class PromiseTest {
         Check.due("noted(4, 2)", bus.noted(4, 2), 12);
     }
 
-    private static void deliverKeeping() {
-        Check.of("promise 13, keep");
-        AddressClaimBus bus = new AddressClaimBus();
-        bus.start(0, 7L, 10);
-        bus.start(1, 8L, 10);
-        Check.due("deliver(true)", bus.deliver(true), true);
-        Check.due("state(1)", bus.state(1), 3);
-        Check.due("it waits on, and the answer behind it", bus.waiting(), 3);
-        Check.due("where it was", bus.data(), 7L);
-        Check.due("deliver(false)", bus.deliver(false), true);
-        Check.due("data()", bus.data(), 8L);
-        for (int i = 0; i < 60; i++) {
-            bus.request(0);
-        }
-        Check.due("waiting()", bus.waiting(), 48);
-        Check.due("overflowed()", bus.overflowed(), 14);
-        bus.deliver(true);
-        Check.due("kept, it leaves no room for the answer", bus.overflowed(), 15);
-        bus.deliver(false);
-        Check.due("taken away before, it leaves room", bus.overflowed(), 15);
-        Check.due("waiting()", bus.waiting(), 48);
-    }
-
     private static void lose() {
         Check.of("promise 14");
         AddressClaimBus bus = new AddressClaimBus();
@@ -539,15 +301,6 @@ public final class PromiseTest {
         Check.due("overflowed()", bus.overflowed(), 5);
     }
 
-    private static void overflowedInAllCalls() {
-        Check.of("promise 15, in an object's 512 calls");
-        AddressClaimBus bus = new AddressClaimBus();
-        bus.start(0, 7L, 11);
-        Frames.fill(bus, 0, 509);
-        Check.due("waiting()", bus.waiting(), 48);
-        Check.due("overflowed()", bus.overflowed(), 462);
-    }
-
     private static void tick() {
         Check.of("promise 16");
         AddressClaimBus bus = new AddressClaimBus();
@@ -568,28 +321,9 @@ public final class PromiseTest {
         Check.due("seven packets in one tick", bus.tick(2000), 7);
     }
 
-    private static void tickAtTheEdges() {
-        Check.of("promise 16, 1 .. 2000");
-        AddressClaimBus bus = Frames.holding(1);
-        bus.send(0, 50, 1, 9, 0L);
-        for (int ms : new int[] {0, -1, -1250, 2001, Integer.MIN_VALUE, Integer.MAX_VALUE}) {
-            Check.due("tick(" + ms + ")", bus.tick(ms), -1);
-        }
-        Check.due("no time passed", bus.tick(1249), 0);
-        Check.due("tick(1)", bus.tick(1), 1);
-        bus.start(1, 2L, 11);
-        Check.due("tick(2000)", bus.tick(2000), 1);
-        bus.start(2, 3L, 12);
-        Check.due("at its end too", bus.tick(250), 1);
-        Check.due("state(2)", bus.state(2), 2);
-    }
-
     private static void outgoing() {
         Check.of("promise 17");
         AddressClaimBus bus = Frames.holding(3);
-        for (int f : NO_FUNCTIONS) {
-            Check.due("outgoing of no function", bus.outgoing(f), -1);
-        }
         Check.due("off", bus.outgoing(3), -1);
         Check.due("none yet", bus.outgoing(0), 0);
         bus.send(0, 255, 1, 9, 0L);
@@ -613,9 +347,6 @@ public final class PromiseTest {
     private static void incoming() {
         Check.of("promise 18");
         AddressClaimBus bus = Frames.holding(4);
-        for (int f : NO_FUNCTIONS) {
-            Check.due("incoming of no function", bus.incoming(f), -1);
-        }
         Check.due("off", bus.incoming(4), -1);
         Check.due("none", bus.incoming(3), 0);
         bus.send(0, 13, 1, 9, 0L);
@@ -632,9 +363,6 @@ public final class PromiseTest {
     private static void delivered() {
         Check.of("promise 19");
         AddressClaimBus bus = Frames.holding(2);
-        for (int f : NO_FUNCTIONS) {
-            Check.due("delivered to no function", bus.delivered(f), -1);
-        }
         Check.due("off", bus.delivered(4), -1);
         Check.due("none", bus.delivered(1), 0);
         for (int i = 1; i <= 3; i++) {
@@ -660,9 +388,6 @@ public final class PromiseTest {
         Check.due("directed", bus.message(1, 3), 0);
         Check.due("what = -1", bus.message(1, -1), -1);
         Check.due("what = 4", bus.message(1, 4), -1);
-        for (int f : NO_FUNCTIONS) {
-            Check.due("of no function", bus.message(f, 0), -1);
-        }
         Check.due("of the sender", bus.message(0, 0), -1);
         bus.send(0, 255, 0, 9, 0L);
         bus.deliver(false);
@@ -691,9 +416,6 @@ public final class PromiseTest {
         }
         for (int i : new int[] {-1, 49, 50, Integer.MIN_VALUE, Integer.MAX_VALUE}) {
             Check.due("no byte", bus.byteOf(1, i), -1);
-        }
-        for (int f : NO_FUNCTIONS) {
-            Check.due("of no function", bus.byteOf(f, 0), -1);
         }
         bus.send(0, 11, 1, 9, -1L);
         Frames.deliver(bus, 3);
