@@ -22,7 +22,8 @@ public final class PromiseEdgesTest {
         sendTargets();
         sendGroupsAndSizes();
         sendAfterAnEnd();
-        nothingWaits();
+        identifierOfNone();
+        dataOfNone();
         deliverRefused();
         deliverKeeping();
         loseRefused();
@@ -30,6 +31,7 @@ public final class PromiseEdgesTest {
         tickAtTheEdges();
         outgoingOfNone();
         incomingOfNone();
+        deliveredOfNone();
         messageOfNone();
         byteOfNone();
         Check.end();
@@ -343,22 +345,36 @@ public final class PromiseEdgesTest {
         Check.due("a session again", bus.outgoing(0), 1);
     }
 
-    private static void nothingWaits() {
-        Check.of("Promise 11, 12: -1 when none waits; 0 when none waits");
+    private static void identifierOfNone() {
+        Check.of("Promise 11: The identifier of the next frame; -1 when none waits");
+        AddressClaimBus bus = Frames.holding(1);
+        Check.due("after a delivery", bus.identifier(), -1);
+        bus.request(0);
+        Check.due("one waits", bus.identifier(), Frames.request(10));
+        bus.lose();
+        Check.due("after a loss", bus.identifier(), -1);
+        bus.request(0);
+        bus.stop(0);
+        Check.due("after a stop", bus.identifier(), -1);
+    }
+
+    private static void dataOfNone() {
+        Check.of("Promise 12: The data of the next frame; 0 when none waits");
         AddressClaimBus bus = new AddressClaimBus();
         bus.start(0, 0L, 0);
         Check.due("a frame with the data 0", bus.data(), 0L);
-        Check.due("identifier()", bus.identifier(), Frames.claim(0));
-        Check.due("waiting()", bus.waiting(), 1);
-        bus.deliver(false);
-        Check.due("identifier()", bus.identifier(), -1);
-        Check.due("data()", bus.data(), 0L);
-        bus.request(0);
-        Check.due("data()", bus.data(), 60928L);
+        Check.due("it waits", bus.waiting(), 1);
         bus.stop(0);
-        Check.due("identifier()", bus.identifier(), -1);
-        Check.due("data()", bus.data(), 0L);
-        Check.due("waiting()", bus.waiting(), 0);
+        bus.start(0, -1L, 0);
+        Check.due("a frame with all bits", bus.data(), -1L);
+        bus.deliver(false);
+        Check.due("after a delivery", bus.data(), 0L);
+        bus.request(0);
+        bus.lose();
+        Check.due("after a loss", bus.data(), 0L);
+        bus.request(0);
+        bus.stop(0);
+        Check.due("after a stop", bus.data(), 0L);
     }
 
     private static void deliverRefused() {
@@ -451,17 +467,29 @@ public final class PromiseEdgesTest {
     }
 
     private static void incomingOfNone() {
-        Check.of("Promise 18, 19: -1 when it is off or not 0 .. 4");
+        Check.of("Promise 18: -1 when it is off or not 0 .. 4");
         AddressClaimBus bus = Frames.inEachState();
         int[] due = {-1, 0, 0, 0, -1};
         for (int f = 0; f < 5; f++) {
             Check.due("incoming(" + f + ")", bus.incoming(f), due[f]);
-            Check.due("delivered(" + f + ")", bus.delivered(f), due[f]);
         }
         for (int f : NO_FUNCTIONS) {
             Check.due("incoming(" + f + ")", bus.incoming(f), -1);
+        }
+    }
+
+    private static void deliveredOfNone() {
+        Check.of("Promise 19: delivered to f since it was started; -1 when it is off or not 0 .. 4");
+        AddressClaimBus bus = withMessage(0L);
+        Check.due("delivered(0)", bus.delivered(0), 0);
+        Check.due("off", bus.delivered(2), -1);
+        for (int f : NO_FUNCTIONS) {
             Check.due("delivered(" + f + ")", bus.delivered(f), -1);
         }
+        bus.stop(1);
+        Check.due("off", bus.delivered(1), -1);
+        bus.start(1, 2L, 11);
+        Check.due("none since it was started", bus.delivered(1), 0);
     }
 
     private static void messageOfNone() {
