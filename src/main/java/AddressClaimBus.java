@@ -64,7 +64,7 @@ public final class AddressClaimBus {
 
     private static final int MOST_TICK = 2000;
     private static final long NEVER = 0x7FFFFFFFFFFFFFFFL;
-    /** Twenty timers of at least 50 ms go off at most 800 times in the longest tick. */
+    /** Far above what a tick can need: in 2000 ms the timers of one function go off at most 15 times. */
     private static final int MOST_GOING_OFF = 1000;
 
     private final Bus bus;

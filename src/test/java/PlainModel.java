@@ -168,7 +168,7 @@ final class PlainModel {
         s.seed = seed;
         s.due = now + (s.toAll ? 50 : 1250);
         units[f].out = s;
-        control(f, target, group, s.toAll ? 32 : 16, size, 0, s.packets());
+        control(f, target, group, s.toAll ? 32 : 16, size % 256, size / 256, s.packets());
         return true;
     }
 
@@ -327,7 +327,7 @@ final class PlainModel {
         s.toAll = toAll;
         s.other = frame.source();
         s.group = frame.group();
-        s.size = frame.bytes()[1];
+        s.size = frame.bytes()[1] + 256 * frame.bytes()[2];
         u.in.add(s);
         if (toAll) {
             s.due = now + 750;
@@ -374,7 +374,7 @@ final class PlainModel {
             s.expected++;
             if (k == s.packets()) {
                 if (!s.toAll) {
-                    control(f, s.other, s.group, 19, s.size, 0, s.packets());
+                    control(f, s.other, s.group, 19, s.size % 256, s.size / 256, s.packets());
                 }
                 units[f].messages.add(s);
                 units[f].in.remove(s);
